@@ -14,7 +14,7 @@ public final class DigitRows {
     private static final int MOST_CHARACTERS = 64;
     private static final int LAST_STEP = 64;
 
-    // A sum of two decimals, and a rest with one more digit brought down, have one digit more.
+    // A sum of two decimals, and a decimal times one digit, may have one digit more.
     private static final int WORK_DIGITS = MOST_DIGITS + 1;
     // The longest result is the longest decimal after the widest shift to the left.
     private static final int ROW_WIDTH = MOST_DIGITS + MOST_SHIFT;
@@ -285,7 +285,7 @@ public final class DigitRows {
             if (code == 0) {
                 return writing.digitsLeft == 0;
             }
-            // A place beyond memory must not be counted on: p may be the highest int.
+            // Left here when beyond memory, so that at + 1 never runs over the highest int.
             if (code < 0 || step == LAST_STEP) {
                 return false;
             }

@@ -27,6 +27,7 @@ public final class PromisesTest {
         refusals();
         unreadable();
         overlaps();
+        shortAfterLong();
         CHECKS.end();
     }
 
@@ -276,6 +277,8 @@ public final class PromisesTest {
         checkNumber(LOWEST, 31, 8, "-" + "0".repeat(21) + "2147483648");
         checkNumber(-1, 0, 6, "+");
         checkNumber(0, 0, 4, "+");
+        checkNumber(-1, 1, 8, "-1");
+        checkNumber(1, 1, 0, "+1");
     }
 
     private static void checkNumber(int v, int n, int flags, String want) {
@@ -440,6 +443,7 @@ public final class PromisesTest {
         checkFault("", 143, 143, 143, 143, 132, 7, 1, 0);
         checkFault("1", 143, 143, 143, 143, 132, 145, 0);
         checkFault("-1", 143, 143, 143, 143, 131, 161, 0);
+        checkFault("-1", 143, 143, 143, 143, 132, 161, 0);
         checkFault("0", 145, 8, 2, 0);
         checkFault("7", 145, 8, 2, 0);
         checkFault("7", 8, 1, 145, 0);
@@ -500,6 +504,9 @@ public final class PromisesTest {
         x.put(64, 146);
         CHECKS.due("14: up to the last byte", x.edit(2, 0, 64, 254), 2);
         CHECKS.due("14: up to the last byte", text(x, 254, 2), "12");
+        CHECKS.due("14: from byte 0 on", x.edit(2, 0, 64, 0), 2);
+        CHECKS.due("14: from byte 0 on", text(x, 0, 2), "12");
+        putDecimal(x, 0, "12");
         String before = dump(x);
         for (int b : new int[] {255, 256, 257, -1, LOWEST, HIGHEST}) {
             CHECKS.due("14: written at " + b, x.edit(2, 0, 64, b), -1);
@@ -625,6 +632,32 @@ public final class PromisesTest {
         x.put(3, 149);
         CHECKS.due("over itself: edit", x.edit(5, 0, 3, 2), 5);
         CHECKS.due("over itself: edit", text(x, 2, 5), "12345");
+    }
+
+    /** Nothing of a long call is left in a short one after it. */
+    private static void shortAfterLong() {
+        DigitRows x = two(NINES, "-" + NINES);
+        putDecimal(x, 100, "20");
+        putDecimal(x, 104, "-3");
+        checkShort(x, "sum", longCall(x), x.sum(1, 104, 2, 100, 3, 120), 0, "+017");
+        checkShort(x, "less", longCall(x), x.less(1, 104, 2, 100, 3, 120), 0, "+023");
+        checkShort(x, "product", longCall(x), x.product(1, 104, 2, 100, 3, 120), 8, "-060");
+        checkShort(x, "quotient", longCall(x), x.quotient(1, 104, 2, 100, 3, 120), 8, "-006");
+        checkShort(x, "quotient", longCall(x), x.quotient(1, 104, 2, 100, 3, 120), 8, "-006");
+        checkShort(x, "shift", longCall(x), x.shift(2, 100, 1, 0, 3, 120), 0, "+200");
+        checkShort(x, "number", longCall(x), x.number(7, 3, 120), 0, "+007");
+        putText(x, 140, "-12");
+        checkShort(x, "digits", longCall(x), x.digits(2, 140, 3, 120), 8, "-012");
+    }
+
+    private static int longCall(DigitRows x) {
+        return x.product(31, 0, 31, 32, 31, 64);
+    }
+
+    private static void checkShort(DigitRows x, String what, int before, int flags, int due, String want) {
+        CHECKS.due("long ahead of " + what, before, 10);
+        CHECKS.due("short " + what, flags, due);
+        CHECKS.due("short " + what, decimal(x, 3, 120), want);
     }
 
     private static int size(String decimal) {
