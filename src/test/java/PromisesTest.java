@@ -1,10 +1,5 @@
 /** The promises one by one: ordinary inputs, the edges that the document names, wrong inputs. */
-public final class PromisesTest {
-    private static final Checks CHECKS = new Checks();
-    private static final String NINES = "9".repeat(31);
-    private static final int LOWEST = Integer.MIN_VALUE;
-    private static final int HIGHEST = Integer.MAX_VALUE;
-
+public final class PromisesTest extends MemoryTestKit {
     public static void main(String[] args) {
         newObject();
         putAndByteOf();
@@ -409,18 +404,6 @@ public final class PromisesTest {
         checkEdit("9", " ".repeat(62) + "+9", 143, 143, 143, 143, 130, 5, '+', 161, 0);
     }
 
-    private static void checkEdit(String a, String want, int... pattern) {
-        DigitRows x = two(a, "");
-        for (int i = 0; i < pattern.length; i++) {
-            x.put(64 + i, pattern[i]);
-        }
-        String what = "14: " + a + " by " + java.util.Arrays.toString(pattern);
-        int got = x.edit(size(a), 0, 64, 160);
-        CHECKS.due(what, got, want.length());
-        CHECKS.due(what, text(x, 160, want.length()), want);
-        CHECKS.due(what + ": the byte behind", x.byteOf(160 + want.length()), 0);
-    }
-
     private static void editFaults() {
         for (int code = 0; code < 256; code++) {
             boolean known = code <= 8 || code > 128 && code < 144;
@@ -450,18 +433,6 @@ public final class PromisesTest {
         checkFault("", 8, 255, 0);
         checkSteps();
         checkPatternsAtTheEnd();
-    }
-
-    private static void checkFault(String a, int... pattern) {
-        DigitRows x = two(a, "");
-        for (int i = 0; i < pattern.length; i++) {
-            x.put(64 + i, pattern[i]);
-        }
-        String before = dump(x);
-        String what = "14: fault of " + a + " by " + java.util.Arrays.toString(pattern);
-        CHECKS.due(what, x.edit(size(a), 0, 64, 160), -2);
-        CHECKS.due(what + ": a fault goes ahead of b", x.edit(size(a), 0, 64, 257), -2);
-        CHECKS.due(what + ": nothing changes", dump(x), before);
     }
 
     /** 63 bytes that tell what to do, then 0, are well; a 64th one but 0 is not. */
@@ -658,82 +629,5 @@ public final class PromisesTest {
         CHECKS.due("long ahead of " + what, before, 10);
         CHECKS.due("short " + what, flags, due);
         CHECKS.due("short " + what, decimal(x, 3, 120), want);
-    }
-
-    private static int size(String decimal) {
-        return decimal.startsWith("-") ? decimal.length() - 1 : decimal.length();
-    }
-
-    private static DigitRows bytes(int... all) {
-        DigitRows x = new DigitRows();
-        for (int i = 0; i < all.length; i++) {
-            x.put(i, all[i]);
-        }
-        return x;
-    }
-
-    private static DigitRows filled(int b) {
-        DigitRows x = new DigitRows();
-        for (int i = 0; i < 256; i++) {
-            x.put(i, b);
-        }
-        return x;
-    }
-
-    /** A new object with one decimal at 0 and one at 32, put byte by byte. */
-    private static DigitRows two(String a, String b) {
-        DigitRows x = new DigitRows();
-        putDecimal(x, 0, a);
-        putDecimal(x, 32, b);
-        return x;
-    }
-
-    private static void putDecimal(DigitRows x, int at, String decimal) {
-        int n = size(decimal);
-        String halves = (n % 2 == 0 ? "0" : "") + decimal.substring(decimal.length() - n)
-            + (decimal.startsWith("-") ? "d" : "c");
-        for (int i = 0; i < halves.length(); i += 2) {
-            x.put(at + i / 2, Integer.parseInt(halves.substring(i, i + 2), 16));
-        }
-    }
-
-    private static void putText(DigitRows x, int at, String text) {
-        for (int i = 0; i < text.length(); i++) {
-            x.put(at + i, text.charAt(i));
-        }
-    }
-
-    /** The n digits at a place with their sign; anything but the form that is due shows as hex. */
-    private static String decimal(DigitRows x, int n, int at) {
-        String halves = hex(x, at, n / 2 + 1);
-        if (n % 2 == 0) {
-            if (halves.charAt(0) != '0') {
-                return halves;
-            }
-            halves = halves.substring(1);
-        }
-        char sign = halves.charAt(n);
-        String shown = sign == 'c' ? "+" : sign == 'd' ? "-" : "?";
-        return shown + halves.substring(0, n);
-    }
-
-    private static String hex(DigitRows x, int at, int many) {
-        StringBuilder all = new StringBuilder();
-        for (int i = 0; i < many; i++) {
-            all.append(String.format("%02x", x.byteOf(at + i)));
-        }
-        return all.toString();
-    }
-
-    private static String text(DigitRows x, int at, int many) {
-        StringBuilder all = new StringBuilder();
-        for (int i = 0; i < many; i++) {
-            all.append((char) x.byteOf(at + i));
-        }
-        return all.toString();
-    }
-
-    private static String dump(DigitRows x) {
-        return hex(x, 0, 256);
     }
 }
